@@ -1,0 +1,67 @@
+/** Counts the answers that are not due, and prints each. */
+final class Check {
+
+    /** A call whose answer is due, or that has to throw; a boolean answer counts 1 or 0. */
+    interface Call {
+        long answer();
+    }
+
+    private static int wrong = 0;
+
+    private Check() {
+    }
+
+    static void due(String what, long want, long got) {
+        if (got != want) {
+            report(what + " answered " + got + ", due is " + want);
+        }
+    }
+
+    static void due(String what, boolean want, boolean got) {
+        due(what, want ? 1 : 0, got ? 1 : 0);
+    }
+
+    /** The class has to be the very one: what the machine throws is of a class below it. */
+    static void refused(String what, Class<? extends RuntimeException> want, Call call) {
+        String got = outcome(call);
+        if (!got.equals(want.getSimpleName())) {
+            report(what + " answered " + got + ", due is " + want.getSimpleName());
+        }
+    }
+
+    static void noIndex(String what, Call call) {
+        refused(what, IndexOutOfBoundsException.class, call);
+    }
+
+    static void noArgument(String what, Call call) {
+        refused(what, IllegalArgumentException.class, call);
+    }
+
+    static void noState(String what, Call call) {
+        refused(what, IllegalStateException.class, call);
+    }
+
+    /** The answer, or the name of what was thrown. */
+    static String outcome(Call call) {
+        try {
+            return Long.toString(call.answer());
+        } catch (RuntimeException thrown) {
+            return thrown.getClass().getSimpleName();
+        }
+    }
+
+    static void report(String fault) {
+        wrong++;
+        if (wrong <= 100) {
+            System.out.println(fault);
+        }
+    }
+
+    /** Ends the test: with exit code 1 if an answer was wrong. */
+    static void end() {
+        if (wrong > 0) {
+            System.out.println(wrong + " wrong");
+            System.exit(1);
+        }
+    }
+}
