@@ -1,9 +1,9 @@
 /** Counts the answers that are not due, and prints each. */
 final class Check {
 
-    /** A call whose answer is due, or that has to throw; a boolean answer counts 1 or 0. */
+    /** A call that answers, or has to throw. */
     interface Call {
-        long answer();
+        Object answer();
     }
 
     private static int wrong = 0;
@@ -44,7 +44,7 @@ final class Check {
     /** The answer, or the name of what was thrown. */
     static String outcome(Call call) {
         try {
-            return Long.toString(call.answer());
+            return String.valueOf(call.answer());
         } catch (RuntimeException thrown) {
             return thrown.getClass().getSimpleName();
         }
