@@ -6,6 +6,16 @@ final class Check {
         Object answer();
     }
 
+    /** A call on an object that is made for it. */
+    interface Act {
+        Object on(ThinSheets x);
+    }
+
+    /** A call with an argument that is looked at. */
+    interface ActOf {
+        Object on(ThinSheets x, int value);
+    }
+
     private static int wrong = 0;
 
     private Check() {
@@ -39,6 +49,12 @@ final class Check {
 
     static void noState(String what, Call call) {
         refused(what, IllegalStateException.class, call);
+    }
+
+    /** Just outside of a range, far outside, and as far as there are ints, on both sides. */
+    static int[] beside(int least, int greatest) {
+        return new int[] {least - 1, greatest + 1, least - 1000, greatest + 1000,
+            Integer.MIN_VALUE, Integer.MAX_VALUE};
     }
 
     /** The answer, or the name of what was thrown. */

@@ -61,20 +61,6 @@ public final class PromisesTest {
         Check.end();
     }
 
-    /** The machine 0 is with the person 0, who wrote the sheet 0 of the text 0. */
-    private static ThinSheets written() {
-        ThinSheets x = new ThinSheets();
-        x.lend(0, 0);
-        x.write(0, 0, 0);
-        return x;
-    }
-
-    /** Makes somebody known, by an informer who meets him and nobody else. */
-    private static void makeKnown(ThinSheets x, int person, int informer) {
-        x.informer(informer);
-        x.meet(informer, person);
-    }
-
     // Promise 1
 
     private static void newObject() {
@@ -150,7 +136,7 @@ public final class PromisesTest {
         x.write(2, 9, 3);
         Check.due("slips are not of what is written", 0, x.reading(3, 0));
         Check.due("slips stay behind what is written", 2, x.slip(1, WORD, 5));
-        makeKnown(x, 9, 1);
+        Setting.makeKnown(x, 9, 1);
         x.arrest(9);
         Check.noState("write by one who is arrested", () -> x.write(2, 9, 3));
         x.amnesty();
@@ -179,7 +165,7 @@ public final class PromisesTest {
     // Promise 4
 
     private static void slip() {
-        ThinSheets x = written();
+        ThinSheets x = Setting.written();
         Check.due("slip", 1, x.slip(11, WORD, 99));
         Check.due("slip at another place", 2, x.slip(0, LEAP, 0));
         Check.due("slip at a place again", 2, x.slip(0, GUESS, 7));
@@ -207,7 +193,7 @@ public final class PromisesTest {
     // Promise 5
 
     private static void type() {
-        ThinSheets x = written();
+        ThinSheets x = Setting.written();
         Check.due("type", 1, x.type(0, 0, 6));
         Check.due("type one", 7, x.type(1, 0, 1));
         for (int copy = 0; copy < 6; copy++) {
@@ -233,7 +219,7 @@ public final class PromisesTest {
     }
 
     private static void typeRefuses() {
-        ThinSheets x = written();
+        ThinSheets x = Setting.written();
         x.write(0, 0, 0);
         Check.noIndex("type of -1", () -> x.type(-1, 0, 1));
         Check.noIndex("type of 2", () -> x.type(2, 0, 1));
@@ -250,7 +236,7 @@ public final class PromisesTest {
         Check.noState("type of a burned one with nobody's machine", () -> x.type(0, 1, 1));
         Check.due("slips behind what is refused", 2, x.slip(1, LEAP, 0));
         x.hide(1, 1);
-        makeKnown(x, 0, 1);
+        Setting.makeKnown(x, 0, 1);
         x.arrest(0);
         Check.noState("type by one who is arrested", () -> x.type(1, 0, 1));
         x.amnesty();
@@ -260,7 +246,7 @@ public final class PromisesTest {
     }
 
     private static void typeFills() {
-        ThinSheets x = written();
+        ThinSheets x = Setting.written();
         for (int first = 1; first < 37; first += 6) {
             Check.due("type", first, x.type(0, 0, 6));
         }
@@ -276,7 +262,7 @@ public final class PromisesTest {
     // Promise 6
 
     private static void reading() {
-        ThinSheets x = written();
+        ThinSheets x = Setting.written();
         x.write(1, 0, 0);
         Check.noIndex("reading of -1", () -> x.reading(-1, 0));
         Check.noIndex("reading of 2", () -> x.reading(2, 0));
@@ -294,13 +280,13 @@ public final class PromisesTest {
         Check.due("a word that is not pale", 44, x.reading(5, 1));
         x.burn(5);
         Check.due("a burned one", 44, x.reading(5, 1));
-        makeKnown(x, 0, 9);
+        Setting.makeKnown(x, 0, 9);
         x.search(0, 0);
         Check.due("a seized one", 44, x.reading(2, 1));
     }
 
     private static void readingOfGuesses() {
-        ThinSheets x = written();
+        ThinSheets x = Setting.written();
         x.slip(2, LEAP, 0);
         x.type(0, 0, 6);
         x.slip(0, WORD, 50);
@@ -324,7 +310,7 @@ public final class PromisesTest {
     // Promise 7
 
     private static void unlikely() {
-        ThinSheets x = written();
+        ThinSheets x = Setting.written();
         x.slip(0, WORD, 90);
         x.slip(3, LEAP, 0);
         x.slip(4, LEAP, 0);
@@ -353,7 +339,7 @@ public final class PromisesTest {
 
     /** The word 0 is a word as any other one is. */
     private static void wordZero() {
-        ThinSheets x = written();
+        ThinSheets x = Setting.written();
         x.slip(0, LEAP, 0);
         x.type(0, 0, 1);
         Check.due("the word 0 for what is omitted", 6, x.unlikely(0, 1));
@@ -374,7 +360,7 @@ public final class PromisesTest {
     // Promise 8
 
     private static void likeliest() {
-        ThinSheets x = written();
+        ThinSheets x = Setting.written();
         Check.due("without", NONE, x.likeliest(0));
         x.write(1, 0, 0);
         Check.due("without any of its text", NONE, x.likeliest(1));
@@ -401,7 +387,7 @@ public final class PromisesTest {
     // Promise 9
 
     private static void restored() {
-        ThinSheets x = written();
+        ThinSheets x = Setting.written();
         Check.due("a written word", 7, x.restored(0, 7));
         Check.due("another text", NONE, x.restored(1, 7));
         x.slip(7, WORD, 70);
@@ -417,13 +403,13 @@ public final class PromisesTest {
         Check.noIndex("of text 3", () -> x.restored(3, 0));
         Check.noIndex("at -1", () -> x.restored(0, -1));
         Check.noIndex("at 12", () -> x.restored(0, 12));
-        makeKnown(x, 0, 1);
+        Setting.makeKnown(x, 0, 1);
         x.search(0, 0);
         Check.due("nothing is left", NONE, x.restored(0, 7));
     }
 
     private static void restoredOfBatches() {
-        ThinSheets x = written();
+        ThinSheets x = Setting.written();
         x.type(0, 0, 6);
         x.burn(0);
         x.burn(1);
@@ -450,7 +436,7 @@ public final class PromisesTest {
     // Promise 10
 
     private static void sheetIs() {
-        ThinSheets x = written();
+        ThinSheets x = Setting.written();
         x.lend(2, 0);
         x.write(2, 0, 2);
         int[] writtenIs = {2, 1, 0, NONE, 2, 0, 0, 0};
@@ -468,7 +454,7 @@ public final class PromisesTest {
         Check.due("burned, seized", 0, x.sheetIs(4, 6));
         Check.due("burned, took", 6, x.sheetIs(4, 7));
         x.hide(3, 2);
-        makeKnown(x, 0, 5);
+        Setting.makeKnown(x, 0, 5);
         x.search(0, 2);
         Check.due("seized, with", NONE, x.sheetIs(3, 5));
         Check.due("seized, seized", 1, x.sheetIs(3, 6));
@@ -495,7 +481,7 @@ public final class PromisesTest {
         Check.noIndex("-1 meets", () -> x.meet(-1, 0));
         Check.noIndex("10 meets", () -> x.meet(10, 0));
         Check.noIndex("10 meets himself", () -> x.meet(10, 10));
-        makeKnown(x, 0, 5);
+        Setting.makeKnown(x, 0, 5);
         x.arrest(0);
         Check.noState("one who is arrested meets", () -> x.meet(0, 4));
         Check.noState("somebody meets one who is arrested", () -> x.meet(4, 0));
@@ -513,7 +499,7 @@ public final class PromisesTest {
     // Promise 12
 
     private static void give() {
-        ThinSheets x = written();
+        ThinSheets x = Setting.written();
         x.meet(0, 1);
         x.meet(1, 2);
         x.hide(0, 5);
@@ -529,7 +515,7 @@ public final class PromisesTest {
         Check.noIndex("give 1", () -> x.give(1, 0));
         Check.noIndex("give to -1", () -> x.give(0, -1));
         Check.noIndex("give to 10", () -> x.give(0, 10));
-        makeKnown(x, 2, 9);
+        Setting.makeKnown(x, 2, 9);
         x.arrest(2);
         Check.noState("give to one who is arrested", () -> x.give(0, 2));
         x.meet(9, 1);
@@ -550,7 +536,7 @@ public final class PromisesTest {
     // Promise 13
 
     private static void hide() {
-        ThinSheets x = written();
+        ThinSheets x = Setting.written();
         Check.due("hide", 0, x.hide(0, 9));
         Check.due("hide again", 9, x.hide(0, 0));
         Check.due("hide at last", 0, x.hide(0, 4));
@@ -559,7 +545,7 @@ public final class PromisesTest {
         Check.noIndex("hide -1", () -> x.hide(-1, 0));
         Check.noIndex("hide 1", () -> x.hide(1, 10));
         Check.due("as hidden", 4, x.sheetIs(0, 7));
-        makeKnown(x, 0, 1);
+        Setting.makeKnown(x, 0, 1);
         x.arrest(0);
         Check.noState("hide by one who is arrested", () -> x.hide(0, 5));
         Check.noArgument("hide, argument ahead of state", () -> x.hide(0, 10));
@@ -576,7 +562,7 @@ public final class PromisesTest {
     // Promise 14
 
     private static void burn() {
-        ThinSheets x = written();
+        ThinSheets x = Setting.written();
         x.write(0, 0, 0);
         x.burn(0);
         Check.due("burned", NONE, x.sheetIs(0, 5));
@@ -585,7 +571,7 @@ public final class PromisesTest {
         Check.noIndex("burn 2", () -> burnOf(x, 2));
         Check.noState("burn again", () -> burnOf(x, 0));
         x.hide(1, 3);
-        makeKnown(x, 0, 1);
+        Setting.makeKnown(x, 0, 1);
         x.arrest(0);
         Check.noState("burn by one who is arrested", () -> burnOf(x, 1));
         Check.due("not burned by that", 0, x.sheetIs(1, 5));
@@ -603,7 +589,7 @@ public final class PromisesTest {
     // Promise 15
 
     private static void whoHad() {
-        ThinSheets x = written();
+        ThinSheets x = Setting.written();
         x.meet(0, 1);
         x.meet(1, 9);
         x.slip(4, LEAP, 0);
@@ -620,7 +606,7 @@ public final class PromisesTest {
         Check.due("who had another word", 0, x.whoHad(0, 4, 5));
         Check.due("who had another text", 0, x.whoHad(1, 4, 4));
         x.burn(1);
-        makeKnown(x, 1, 2);
+        Setting.makeKnown(x, 1, 2);
         x.arrest(1);
         Check.due("whatever became of them", 1 + 2 + (1 << 9), x.whoHad(0, 4, OMITTED));
         Check.noIndex("of text -1", () -> x.whoHad(-1, 0, 0));
@@ -657,7 +643,7 @@ public final class PromisesTest {
         Check.noIndex("lend 4", () -> x.lend(4, 0));
         Check.noIndex("lend to -1", () -> x.lend(0, -1));
         Check.noIndex("lend to 10", () -> x.lend(0, 10));
-        makeKnown(x, 0, 5);
+        Setting.makeKnown(x, 0, 5);
         x.arrest(0);
         Check.noState("lend by one who is arrested", () -> x.lend(3, 1));
         Check.noState("lend to one who is arrested", () -> x.lend(1, 0));
@@ -671,7 +657,7 @@ public final class PromisesTest {
     // Promise 18
 
     private static void file() {
-        ThinSheets x = written();
+        ThinSheets x = Setting.written();
         Check.noState("file what is with nobody", () -> x.file(1));
         Check.noIndex("file -1", () -> x.file(-1));
         Check.noIndex("file 4", () -> x.file(4));
@@ -732,7 +718,7 @@ public final class PromisesTest {
     }
 
     private static void informerSees() {
-        ThinSheets x = written();
+        ThinSheets x = Setting.written();
         x.file(0);
         x.meet(0, 1);
         x.give(0, 1);
@@ -777,7 +763,7 @@ public final class PromisesTest {
         Check.noIndex("strong 10", () -> x.strong(10, 0));
         x.meet(9, 0);
         x.meet(9, 1);
-        makeKnown(x, 9, 5);
+        Setting.makeKnown(x, 9, 5);
         x.arrest(9);
         x.pass(1);
         Check.due("strong for one night", false, x.isKnown(0));
@@ -797,7 +783,7 @@ public final class PromisesTest {
     // Promise 21
 
     private static void arrest() {
-        ThinSheets x = written();
+        ThinSheets x = Setting.written();
         x.type(0, 0, 3);
         x.hide(1, 1);
         x.meet(0, 1);
@@ -805,7 +791,7 @@ public final class PromisesTest {
         Check.noState("arrest of one who is not known", () -> x.arrest(0));
         Check.noIndex("arrest of -1", () -> x.arrest(-1));
         Check.noIndex("arrest of 10", () -> x.arrest(10));
-        makeKnown(x, 0, 9);
+        Setting.makeKnown(x, 0, 9);
         x.file(0);
         x.lend(0, 2);
         x.file(0);
@@ -826,7 +812,7 @@ public final class PromisesTest {
     // Promise 22
 
     private static void search() {
-        ThinSheets x = written();
+        ThinSheets x = Setting.written();
         x.type(0, 0, 4);
         x.hide(0, 9);
         x.hide(1, 8);
@@ -834,7 +820,7 @@ public final class PromisesTest {
         x.hide(3, 3);
         Check.noState("search of one who is not known", () -> x.search(0, 0));
         Check.noArgument("search, argument ahead of state", () -> x.search(0, 10));
-        makeKnown(x, 0, 9);
+        Setting.makeKnown(x, 0, 9);
         Check.noArgument("search for -1", () -> x.search(0, -1));
         Check.noArgument("search for 10", () -> x.search(0, 10));
         Check.noIndex("search of -1", () -> x.search(-1, 0));
@@ -852,11 +838,11 @@ public final class PromisesTest {
     }
 
     private static void searchForMachines() {
-        ThinSheets x = written();
+        ThinSheets x = Setting.written();
         x.lend(1, 0);
         x.lend(2, 3);
         x.burn(0);
-        makeKnown(x, 0, 9);
+        Setting.makeKnown(x, 0, 9);
         x.search(0, 4);
         Check.due("not by a search for 4", 0, x.lend(0, 0));
         Check.due("search for 5", 0, x.search(0, 5));
@@ -867,23 +853,23 @@ public final class PromisesTest {
     }
 
     private static void searchSeesAheadOfMachines() {
-        ThinSheets x = written();
+        ThinSheets x = Setting.written();
         x.lend(0, 7);
         x.file(0);
         x.lend(0, 0);
-        makeKnown(x, 0, 9);
+        Setting.makeKnown(x, 0, 9);
         Check.due("search", 1, x.search(0, 9));
         Check.due("the sheet is seen ahead of the filing", true, x.isKnown(7));
         Check.due("lines", 3, x.open());
         Check.due("the search is ahead", ThinSheets.SEARCHED, x.line(1, 1));
         Check.due("by a machine", ThinSheets.MACHINE, x.line(2, 1));
 
-        ThinSheets y = written();
+        ThinSheets y = Setting.written();
         y.lend(0, 7);
         y.file(0);
         y.lend(0, 0);
         y.burn(0);
-        makeKnown(y, 0, 9);
+        Setting.makeKnown(y, 0, 9);
         y.search(0, 9);
         Check.due("a machine is filed with him, and then seen", false, y.isKnown(7));
     }
@@ -928,7 +914,7 @@ public final class PromisesTest {
     }
 
     private static void isKnownAnew() {
-        ThinSheets x = written();
+        ThinSheets x = Setting.written();
         x.file(0);
         x.meet(0, 1);
         x.meet(0, 2);
@@ -968,7 +954,7 @@ public final class PromisesTest {
         x.strong(4, 0);
         Check.due("strong for none", 1, x.risk(4, 1));
         Check.due("strong for none, for 0", 0, x.risk(4, 0));
-        makeKnown(x, 0, 7);
+        Setting.makeKnown(x, 0, 7);
         Check.due("who is known is not opened", 4, x.risk(4, 1));
         x.meet(7, 4);
         x.meet(2, 3);
@@ -1021,7 +1007,7 @@ public final class PromisesTest {
         x.informer(9);
         x.pass(5);
         x.arrest(3);
-        makeKnown(x, 6, 0);
+        Setting.makeKnown(x, 6, 0);
         x.pass(1);
         x.strong(6, 2);
         x.arrest(6);
@@ -1088,7 +1074,7 @@ public final class PromisesTest {
     // Promise 30
 
     private static void line() {
-        ThinSheets x = written();
+        ThinSheets x = Setting.written();
         x.meet(0, 1);
         x.strong(0, 0);
         x.pass(2);
@@ -1172,7 +1158,7 @@ public final class PromisesTest {
     /** As many lines as the promised calls can make; and more, whatever they answer, end well. */
     private static void lineOfEveryCall() {
         ThinSheets x = new ThinSheets();
-        makeKnown(x, 4, 0);
+        Setting.makeKnown(x, 4, 0);
         x.open();
         for (int line = 1; line < 508; line++) {
             Check.due("search", 0, x.search(4, 4));
